@@ -45,8 +45,22 @@ public final class PromiseTest {
             CHECK.same("the first rate", x.payOf(site), 1000);
             CHECK.same("the first margin", x.chargeOf(site), 1200);
         }
+        firstVolumeAndLowMargin();
         AssignmentHouse y = new AssignmentHouse();
         CHECK.same("another object begins without shifts too", y.shifts(), 0);
+    }
+
+    private static void firstVolumeAndLowMargin() {
+        for (int site = 0; site < 4; site++) {
+            AssignmentHouse x = new AssignmentHouse();
+            for (int day = 0; day < 6; day++) {
+                x.shift(day, site, day, 16);
+            }
+            x.shift(0, site, 6, 3);
+            CHECK.same("the margin at 99 hours", x.chargeOf(6), 3600);
+            x.correct(6, 4);
+            CHECK.same("the low margin at 100 hours", x.chargeOf(6), 4400);
+        }
     }
 
     private static void promise2SetRates() {
@@ -176,9 +190,12 @@ public final class PromiseTest {
         CHECK.same("10 hours earn 70", x.correct(0, 2), 3);
         CHECK.same("nothing left", x.holiday(0), 0);
         CHECK.badArgument("hours 17, holiday taken", () -> x.correct(0, 17));
+        x.correct(0, 3);
+        x.takeHoliday(0, 1);
+        CHECK.badState("10 hours earn one minute too few", () -> x.correct(0, 2));
         x.shift(1, 0, 0, 5);
         CHECK.same("another worker's holiday does not matter", x.correct(2, 0), 5);
-        CHECK.same("corrected up with no holiday left", x.correct(0, 16), 2);
+        CHECK.same("corrected up", x.correct(0, 16), 3);
     }
 
     private static void promise7Shifts() {
@@ -378,6 +395,9 @@ public final class PromiseTest {
         CHECK.same("billed by the margins of now", x.billed(0, 0), 9000);
         CHECK.same("an empty week", x.run(19), 0);
         CHECK.same("the other week", x.run(1), 1000);
+        CHECK.same("paid for the other week", x.paid(0, 1), 1000);
+        CHECK.same("billed for the other week", x.billed(0, 1), 1500);
+        everyCellHasItsOwn();
         x.correct(0, 0);
         CHECK.same("before a run all is as it was", x.paid(0, 0), 6000);
         x.run(0);
@@ -394,6 +414,26 @@ public final class PromiseTest {
             CHECK.noSuch("paid for week " + bad, () -> x.paid(0, bad));
             CHECK.noSuch("billed to site " + bad, () -> x.billed(bad, 0));
             CHECK.noSuch("billed for week " + bad, () -> x.billed(0, bad));
+        }
+    }
+
+    private static void everyCellHasItsOwn() {
+        AssignmentHouse x = new AssignmentHouse();
+        x.shift(1, 2, 3 * 7, 1);
+        x.shift(4, 1, 19 * 7, 2);
+        CHECK.same("run 3", x.run(3), 1000);
+        CHECK.same("run 19", x.run(19), 2000);
+        for (int week = 0; week < 20; week++) {
+            for (int worker = 0; worker < 6; worker++) {
+                int due = worker == 1 && week == 3 ? 1000 : worker == 4 && week == 19 ? 2000 : 0;
+                CHECK.same("paid(" + worker + ", " + week + ")", x.paid(worker, week), due);
+                CHECK.same("owing(" + worker + ", " + week + ")", x.owing(worker, week), 0);
+            }
+            for (int site = 0; site < 4; site++) {
+                int due = site == 2 && week == 3 ? 1200 : site == 1 && week == 19 ? 2400 : 0;
+                CHECK.same("billed(" + site + ", " + week + ")", x.billed(site, week), due);
+                CHECK.same("toBill(" + site + ", " + week + ")", x.toBill(site, week), 0);
+            }
         }
     }
 
