@@ -123,6 +123,16 @@ public final class EdgeTest {
         return x;
     }
 
+    /** Worker 0 at site 0 on the first and last day of week 1, and on the days before and after it. */
+    private static AssignmentHouse besideWeekOne() {
+        AssignmentHouse x = fresh();
+        x.shift(0, 0, 6, 1);
+        x.shift(0, 0, 7, 4);
+        x.shift(0, 0, 13, 5);
+        x.shift(0, 0, 14, 7);
+        return x;
+    }
+
     /** All 80 shifts at site 0 in week 0: 976 hours, the most a site can have in a week. */
     private static AssignmentHouse fullSite() {
         AssignmentHouse x = fresh();
@@ -554,6 +564,7 @@ public final class EdgeTest {
         CHECK.same("40 plain, 128 over", x.pay(5, 19), 2320000);
         CHECK.same("another week", x.pay(5, 18), 0);
         CHECK.same("another worker", x.pay(4, 19), 0);
+        CHECK.same("the days beside the week are of others", besideWeekOne().pay(0, 1), 9000);
     }
 
     private static void payOfNone() {
@@ -573,6 +584,10 @@ public final class EdgeTest {
             odd.shift(0, 0, 6, 1);
         }
         CHECK.same("8 times 1, 8 times 1.5 down", odd.payByHours(0, 0), 16);
+        odd.shift(0, 0, 6, 2);
+        CHECK.same("and 3 halves for each of 2 hours", odd.payByHours(0, 0), 19);
+        AssignmentHouse beside = besideWeekOne();
+        CHECK.same("the days beside the week are of others", beside.payByHours(0, 1), 9000);
     }
 
     private static void payByHoursOfNone() {
